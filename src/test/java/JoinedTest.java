@@ -11,6 +11,7 @@ public final class JoinedTest {
         weightsOfWhatCounts();
         weightOutOfRange();
         joinedIsTheMiddle();
+        joinedBehindSixtyDays();
         joinedByWeights();
         copiersAreLeftOut();
         copiersFromTheirDayOn();
@@ -156,6 +157,26 @@ public final class JoinedTest {
         due.same("on the first of all days", x.joined(0, 0), ForeBook.NONE);
         x.tell(0, 2, 0);
         due.same("void", x.joined(0, 13), 3);
+    }
+
+    /** The first day behind all on which a question can be open is no other question's first day. */
+    private static void joinedBehindSixtyDays() {
+        ForeBook x = new ForeBook();
+        x.question(10, 69);
+        x.question(10, 69);
+        x.guess(0, 0, 10, 3);
+        x.guess(0, 1, 10, 8);
+        due.same("the other's first day", x.joined(1, 10), 8);
+        due.same("day 70", x.joined(0, 70), 3);
+        x.guess(0, 0, 69, 2);
+        due.same("day 70", x.joined(0, 70), 2);
+        due.same("the other's first day", x.joined(1, 10), 8);
+        for (int q = 2; q < 20; q++) {
+            x.question(10, 69);
+        }
+        x.guess(0, 19, 10, 6);
+        due.same("the last question's day 69", x.joined(19, 69), 6);
+        due.same("the last question's day 70", x.joined(19, 70), 6);
     }
 
     private static void joinedByWeights() {

@@ -163,6 +163,12 @@ public final class RulesTest {
         refused("Least 5;", 1, 0);
         refused("leas 5;", 1, 0);
         refused("leasts 5;", 1, 0);
+        refused("leastz 5;", 1, 0);
+        refused("aleast 5;", 1, 0);
+        refused("least{5;", 1, 5);
+        refused("least`5;", 1, 5);
+        refused("least 5:", 1, 7);
+        refused("least 5/", 1, 7);
         refused("missinghalf;", 1, 0);
         refused("missing 5;", 1, 8);
         refused("missing past;", 1, 8);

@@ -48,6 +48,8 @@ public final class TiesTest {
         due.same("RANGE ahead of FULL", x.tie(0, 0, 0), ForeBook.RANGE);
         due.same("ties", x.count(2), 30);
         due.same("the last bit", x.pumps(0, 10), 1 << 29);
+        due.same("mend by all of them", x.mend(0, 10, 3), 1);
+        mended(x, 8, 8);
     }
 
     private static void pumpsByKind() {
