@@ -723,7 +723,7 @@ public final class ForeBook {
             Guess made = new Guess(g, q, day, tenth, latest[cell(g, q)]);
             latest[cell(g, q)] = made;
             int place = number;
-            while (place > 0 && byDay[place - 1].day > day) {
+            while (place > 0 && isBehind(byDay[place - 1], day)) {
                 byDay[place] = byDay[place - 1];
                 place--;
             }
@@ -735,8 +735,11 @@ public final class ForeBook {
         }
 
         boolean hasLaterGuess(int g, int q, int day) {
-            Guess last = latest[cell(g, q)];
-            return last != null && last.day > day;
+            return isBehind(latest[cell(g, q)], day);
+        }
+
+        private static boolean isBehind(Guess made, int day) {
+            return made != null && made.day > day;
         }
 
         /** Of a guesser and a question the latest guess told on a day or ahead of it, or null. */
@@ -965,7 +968,8 @@ public final class ForeBook {
         int countCopies(int g, int of) {
             int found = 0;
             for (int i = 0; i < book.guessCount; i++) {
-                if (book.byDay[i].guesser == g && isCopy(book.byDay[i], of)) {
+                Guess made = book.byDay[i];
+                if (made != null && made.guesser == g && isCopy(made, of)) {
                     found++;
                 }
             }
@@ -992,7 +996,7 @@ public final class ForeBook {
         }
 
         private void noteCopy(Guess made, int of) {
-            if (made.guesser == of || !isCopy(made, of)) {
+            if (made == null || made.guesser == of || !isCopy(made, of)) {
                 return;
             }
             int at = pair(made.guesser, of);

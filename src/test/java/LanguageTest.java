@@ -42,7 +42,7 @@ public final class LanguageTest {
         long before = threads.getCurrentThreadAllocatedBytes();
         ForeBook x = fullBook();
         long full = threads.getCurrentThreadAllocatedBytes();
-        for (int i = 0; i < 130; i++) {
+        for (int i = 0; i < 80; i++) {
             x.luck(i % 20, 2);
             x.tell(i % 20, i & 1, 100);
         }

@@ -209,7 +209,7 @@ public final class ModelTest {
             same("mend " + g + " " + day + " " + set, book.mend(g, day, set), naive.mend(g, day, set));
         }
         for (int q = 0; q < naive.questions.size(); q++) {
-            due.same(run + "mended " + q, book.mended(q), naive.mended[q]);
+            same("mended " + q, book.mended(q), naive.mended[q]);
         }
     }
 }
