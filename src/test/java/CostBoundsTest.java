@@ -14,6 +14,7 @@ public final class CostBoundsTest {
         noRowsWithoutAGuess();
         guessedWhenItWasKnownAlready();
         noRowsIfNeitherYesNorNo();
+        rowsFollowEachChange();
         leastRowsOrMore();
         leastAboveSixty();
         meanWithoutAny();
@@ -187,6 +188,29 @@ public final class CostBoundsTest {
         x.tell(0, 3, 0);
         rows(x, 0, 0, 0, 0);
         mean(x, 0, 0, 0);
+    }
+
+    /** What is kept of an earlier ask must not outlive a change, whatever came between. */
+    private static void rowsFollowEachChange() {
+        due.sentence("ROWS of a GUESSER on a QUESTION that is YES or NO");
+        ForeBook x = new ForeBook();
+        x.question(0, 9);
+        x.guess(0, 0, 0, 8);
+        rows(x, 0, 0, 0, 0);
+        x.question(0, 9);
+        x.tell(0, 1, 5);
+        rows(x, 0, 0, 5, 20);
+        x.question(0, 9);
+        x.tell(0, 3, 0);
+        x.guess(0, 0, 1, 9);
+        x.question(0, 9);
+        x.question(0, 9);
+        x.tell(0, 1, 5);
+        rows(x, 0, 0, 5, 8);
+        x.question(0, 9);
+        Due.rules(x, "yes 7 7 7 7 7 7 7 7 7 7 7;");
+        rows(x, 0, 0, 5, 35);
+        mean(x, 0, 7, 1);
     }
 
     private static void leastRowsOrMore() {

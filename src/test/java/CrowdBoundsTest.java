@@ -27,6 +27,7 @@ public final class CrowdBoundsTest {
         joinedAtHalfOrMore();
         joinedByWeightsAtHalf();
         joinedOnAllDays();
+        joinedFollowsEachChange();
         togetherOnDaysThatCount();
         togetherWithoutAnyAside();
         luckOfEveryCount();
@@ -455,6 +456,25 @@ public final class CrowdBoundsTest {
             due.same("joined(" + q + ", 999)", x.joined(q, 999), q % 11);
             due.same("joined(" + q + ", 0)", x.joined(q, 0), q % 11);
         }
+    }
+
+    private static void joinedFollowsEachChange() {
+        due.sentence("JOINED number of a QUESTION on a day");
+        ForeBook x = new ForeBook();
+        x.question(0, 9);
+        x.guess(0, 0, 0, 8);
+        due.same("one", x.joined(0, 5), 8);
+        x.question(0, 9);
+        x.guess(1, 0, 5, 3);
+        due.same("two", x.joined(0, 5), 3);
+        x.question(0, 9);
+        Due.rules(x, "copy 5 1;");
+        x.guess(1, 0, 5, 8);
+        due.same("two that copy", x.joined(0, 5), 8);
+        x.guess(1, 0, 5, 3);
+        due.same("the copier is left out still", x.joined(0, 5), 8);
+        x.rules();
+        due.same("no copy", x.joined(0, 5), 3);
     }
 
     private static void together(ForeBook x, int q, int many, int sum) {
