@@ -82,17 +82,12 @@ public final class BookBoundsTest {
                 ForeBook.RANGE);
     }
 
-    private static ForeBook withQuestions(int many) {
-        ForeBook x = new ForeBook();
-        for (int q = 0; q < many; q++) {
-            due.same("question " + q, x.question(10, 19), q);
-        }
-        return x;
-    }
-
     private static void questionsAreTwenty() {
         due.sentence("QUESTIONS, at most 20, numbered from 0");
-        ForeBook x = withQuestions(20);
+        ForeBook x = new ForeBook();
+        for (int q = 0; q < 20; q++) {
+            due.same("question " + q, x.question(10, 19), q);
+        }
         due.same("the 21st", x.question(10, 19), ForeBook.FULL);
         due.same("and again", x.question(0, 0), ForeBook.FULL);
         due.same("questions", x.count(0), 20);
@@ -106,7 +101,7 @@ public final class BookBoundsTest {
 
     private static void rangeComesAheadOfFull() {
         due.sentence("A QUESTION comes: its number; RANGE; FULL.");
-        ForeBook x = withQuestions(20);
+        ForeBook x = Due.withQuestions(20);
         due.same("no day", x.question(10, 9), ForeBook.RANGE);
         due.same("61 days", x.question(10, 70), ForeBook.RANGE);
         due.same("60 days", x.question(10, 69), ForeBook.FULL);
@@ -116,13 +111,13 @@ public final class BookBoundsTest {
         due.sentence("A QUESTION is YES (1) or NO (0), KNOWN on a day (not below from)");
         for (int how = 0; how <= 1; how++) {
             for (int known : new int[] {10, 11, 19, 20, 21, 998, 999}) {
-                ForeBook x = withQuestions(1);
+                ForeBook x = Due.withQuestions(1);
                 due.same("known on " + known, x.tell(0, how, known), 3);
                 due.same("how", x.about(0, 2), how);
                 due.same("known", x.about(0, 3), known);
             }
             for (int known : new int[] {9, 0, -1, 1000, 1010, Integer.MIN_VALUE, Integer.MAX_VALUE}) {
-                ForeBook x = withQuestions(1);
+                ForeBook x = Due.withQuestions(1);
                 due.same("known on " + known, x.tell(0, how, known), ForeBook.RANGE);
                 due.same("how", x.about(0, 2), 3);
                 due.same("known", x.about(0, 3), ForeBook.NONE);
@@ -141,7 +136,7 @@ public final class BookBoundsTest {
         due.sentence("what it was (0 .. 3); RANGE.");
         for (int was = 0; was <= 3; was++) {
             for (int now = 0; now <= 3; now++) {
-                ForeBook x = withQuestions(1);
+                ForeBook x = Due.withQuestions(1);
                 x.tell(0, was, was < 2 ? 12 : 0);
                 due.same("told " + now + " when it was " + was, x.tell(0, now, now < 2 ? 14 : 0), was);
                 due.same("how", x.about(0, 2), now);
@@ -154,7 +149,7 @@ public final class BookBoundsTest {
         due.sentence("or VOID (2; known 0), or not told any more (3; known 0)");
         for (int how = 2; how <= 3; how++) {
             for (int known : new int[] {-1, 1, 10, 15, 999, ForeBook.NONE}) {
-                ForeBook x = withQuestions(1);
+                ForeBook x = Due.withQuestions(1);
                 x.tell(0, 1, 15);
                 due.same("told " + how + " with " + known, x.tell(0, how, known), ForeBook.RANGE);
                 due.same("how", x.about(0, 2), 1);
@@ -169,7 +164,7 @@ public final class BookBoundsTest {
 
     private static void notToldAnyMore() {
         due.sentence("STATE: it has a later GUESS of theirs, or isn't one that is not told yet; FULL.");
-        ForeBook x = withQuestions(1);
+        ForeBook x = Due.withQuestions(1);
         x.guess(0, 0, 12, 9);
         for (int how = 0; how <= 2; how++) {
             x.tell(0, how, how < 2 ? 15 : 0);
@@ -185,7 +180,7 @@ public final class BookBoundsTest {
     private static void guessOnOpenDaysAlone() {
         due.sentence("of a GUESSER on a QUESTION on a day on which it is open");
         for (int day = -1; day <= 30; day++) {
-            ForeBook x = withQuestions(1);
+            ForeBook x = Due.withQuestions(1);
             boolean isOpen = day >= 10 && day <= 19;
             due.same("guess on day " + day, x.guess(0, 0, day, 5), isOpen ? 0 : ForeBook.RANGE);
             due.same("guesses", x.count(1), isOpen ? 1 : 0);
@@ -202,7 +197,7 @@ public final class BookBoundsTest {
     private static void guessOfATenth() {
         due.sentence("a TENTH 0 .. 10 (how sure of YES)");
         for (int tenth = -3; tenth <= 13; tenth++) {
-            ForeBook x = withQuestions(1);
+            ForeBook x = Due.withQuestions(1);
             boolean canBe = tenth >= 0 && tenth <= 10;
             due.same("guess of " + tenth, x.guess(0, 0, 10, tenth), canBe ? 0 : ForeBook.RANGE);
             due.same("held", x.holds(0, 0, 10), canBe ? tenth : ForeBook.NONE);
@@ -211,7 +206,7 @@ public final class BookBoundsTest {
 
     private static void guessNotOnAnEarlierDay() {
         due.sentence("not on an earlier day than their latest one on that QUESTION.");
-        ForeBook x = withQuestions(2);
+        ForeBook x = Due.withQuestions(2);
         x.guess(0, 0, 15, 5);
         due.same("a day earlier", x.guess(0, 0, 14, 6), ForeBook.STATE);
         due.same("the first day", x.guess(0, 0, 10, 6), ForeBook.STATE);
@@ -227,7 +222,7 @@ public final class BookBoundsTest {
 
     private static void guessOnWhatIsNotTold() {
         due.sentence("later told YES, NO or VOID, with the day on which that was KNOWN (YES, NO), or not told yet.");
-        ForeBook x = withQuestions(2);
+        ForeBook x = Due.withQuestions(2);
         x.tell(0, 1, 19);
         due.same("on a day ahead of the one on which it was known", x.guess(0, 0, 10, 5), ForeBook.STATE);
         due.same("on another question", x.guess(0, 1, 10, 5), 0);
@@ -237,7 +232,7 @@ public final class BookBoundsTest {
 
     private static void guessesAreThreeHundred() {
         due.sentence("GUESSES, at most 300, numbered from 0 as they come");
-        ForeBook x = withQuestions(2);
+        ForeBook x = Due.withQuestions(2);
         for (int i = 0; i < 300; i++) {
             due.same("guess " + i, x.guess(i % 20, i % 2, 10 + i / 30, i % 11), i);
         }
@@ -255,7 +250,7 @@ public final class BookBoundsTest {
     private static void refusalsOfAGuessInOrder() {
         due.sentence("RANGE: no such GUESSER, QUESTION, TENTH, day on which it is open; "
                 + "STATE: it has a later GUESS of theirs, or isn't one that is not told yet; FULL.");
-        ForeBook x = withQuestions(2);
+        ForeBook x = Due.withQuestions(2);
         x.tell(1, 2, 0);
         x.guess(0, 0, 15, 5);
         due.same("no tenth, told", x.guess(0, 1, 15, 11), ForeBook.RANGE);
@@ -276,7 +271,7 @@ public final class BookBoundsTest {
 
     private static void heldFromItsDayOn() {
         due.sentence("the TENTH of their latest GUESS on it told on that day or ahead of it");
-        ForeBook x = withQuestions(2);
+        ForeBook x = Due.withQuestions(2);
         x.guess(0, 0, 12, 0);
         x.guess(0, 0, 15, 10);
         for (int day : new int[] {0, 9, 10, 11}) {
@@ -296,7 +291,7 @@ public final class BookBoundsTest {
 
     private static void heldOfOneDayTheLast() {
         due.sentence("(of one day that told last).");
-        ForeBook x = withQuestions(1);
+        ForeBook x = Due.withQuestions(1);
         for (int tenth : new int[] {7, 10, 0, 3}) {
             x.guess(0, 0, 12, tenth);
             due.same("held on its day", x.holds(0, 0, 12), tenth);
@@ -328,7 +323,7 @@ public final class BookBoundsTest {
 
     private static void countsOfAFullBook() {
         due.sentence("What 0: QUESTIONS, 1: GUESSES, 2: TIES, 3: bytes of THE TAPE, 4: GUESSERS with a MEAN.");
-        ForeBook x = withQuestions(20);
+        ForeBook x = Due.withQuestions(20);
         for (int i = 0; i < 300; i++) {
             x.guess(i % 20, i / 20, 10, 5);
         }

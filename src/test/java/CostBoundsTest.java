@@ -31,16 +31,6 @@ public final class CostBoundsTest {
         due.finish();
     }
 
-    private static void rows(ForeBook x, int g, int q, int many, int sum) {
-        due.same("rows(" + g + ", " + q + ", 0)", x.rows(g, q, 0), many);
-        due.same("rows(" + g + ", " + q + ", 1)", x.rows(g, q, 1), sum);
-    }
-
-    private static void mean(ForeBook x, int g, int above, int below) {
-        due.same("mean(" + g + ", 0)", x.mean(g, 0), above);
-        due.same("mean(" + g + ", 1)", x.mean(g, 1), below);
-    }
-
     private static void rowsBelowTheDayItWasKnown() {
         due.sentence("one for each of its days from .. to that is below the day on which it was KNOWN");
         ForeBook x = new ForeBook();
@@ -49,10 +39,10 @@ public final class CostBoundsTest {
         for (int known = 10; known <= 23; known++) {
             x.tell(0, 1, known);
             int many = Math.min(known, 20) - 10;
-            rows(x, 0, 0, many, 4 * many);
+            due.rows(x, 0, 0, many, 4 * many);
         }
         x.tell(0, 0, 999);
-        rows(x, 0, 0, 10, 640);
+        due.rows(x, 0, 0, 10, 640);
     }
 
     private static void rowsOfOneDay() {
@@ -63,13 +53,13 @@ public final class CostBoundsTest {
         x.guess(0, 0, 999, 8);
         x.guess(0, 1, 0, 8);
         x.tell(0, 1, 999);
-        rows(x, 0, 0, 0, 0);
+        due.rows(x, 0, 0, 0, 0);
         x.tell(1, 1, 0);
-        rows(x, 0, 1, 0, 0);
+        due.rows(x, 0, 1, 0, 0);
         x.tell(1, 1, 1);
-        rows(x, 0, 1, 1, 4);
+        due.rows(x, 0, 1, 1, 4);
         x.tell(1, 0, 999);
-        rows(x, 0, 1, 1, 64);
+        due.rows(x, 0, 1, 1, 64);
     }
 
     private static void rowsOfSixtyDays() {
@@ -81,13 +71,13 @@ public final class CostBoundsTest {
         x.guess(0, 0, 940, 10);
         x.guess(0, 1, 59, 10);
         x.tell(0, 1, 999);
-        rows(x, 0, 0, 59, 59000);
+        due.rows(x, 0, 0, 59, 59000);
         x.tell(1, 1, 60);
-        rows(x, 0, 1, 60, 1000);
+        due.rows(x, 0, 1, 60, 1000);
         x.tell(1, 0, 60);
-        rows(x, 0, 1, 60, 59000);
+        due.rows(x, 0, 1, 60, 59000);
         x.tell(1, 0, 59);
-        rows(x, 0, 1, 59, 59000);
+        due.rows(x, 0, 1, 59, 59000);
     }
 
     private static void rowsCostWhatIsHeld() {
@@ -99,9 +89,9 @@ public final class CostBoundsTest {
             x.guess(19, 0, 10, 5);
             x.guess(19, 0, 10, t);
             x.tell(0, 1, 11);
-            rows(x, 19, 0, 1, 200 + t);
+            due.rows(x, 19, 0, 1, 200 + t);
             x.tell(0, 0, 11);
-            rows(x, 19, 0, 1, 400 + t);
+            due.rows(x, 19, 0, 1, 400 + t);
         }
         ForeBook x = new ForeBook();
         Due.rules(x, UNLIKE_COSTS);
@@ -110,9 +100,9 @@ public final class CostBoundsTest {
             x.guess(0, 0, day, day - 10);
         }
         x.tell(0, 1, 20);
-        rows(x, 0, 0, 10, 2045);
+        due.rows(x, 0, 0, 10, 2045);
         x.tell(0, 0, 12);
-        rows(x, 0, 0, 2, 801);
+        due.rows(x, 0, 0, 2, 801);
     }
 
     private static void missingDaysAreSkipped() {
@@ -123,7 +113,7 @@ public final class CostBoundsTest {
             x.guess(0, 0, day, 8);
             x.tell(0, 1, 15);
             int many = Math.max(0, 15 - day);
-            rows(x, 0, 0, many, 4 * many);
+            due.rows(x, 0, 0, many, 4 * many);
         }
     }
 
@@ -138,7 +128,7 @@ public final class CostBoundsTest {
                 x.tell(0, how, 15);
                 int missing = Math.min(day, 15) - 10;
                 int base = how == 1 ? 200 : 400;
-                rows(x, 0, 0, 5, missing * (base + 5) + (5 - missing) * (base + 8));
+                due.rows(x, 0, 0, 5, missing * (base + 5) + (5 - missing) * (base + 8));
             }
         }
     }
@@ -152,10 +142,10 @@ public final class CostBoundsTest {
         x.guess(0, 0, 10, 8);
         x.tell(0, 1, 15);
         x.tell(1, 1, 15);
-        rows(x, 0, 1, 0, 0);
-        rows(x, 1, 0, 0, 0);
+        due.rows(x, 0, 1, 0, 0);
+        due.rows(x, 1, 0, 0, 0);
         due.same("with a mean", x.count(4), 1);
-        mean(x, 0, 4, 1);
+        due.mean(x, 0, 4, 1);
     }
 
     private static void guessedWhenItWasKnownAlready() {
@@ -164,11 +154,11 @@ public final class CostBoundsTest {
         x.question(10, 19);
         x.guess(0, 0, 15, 10);
         x.tell(0, 1, 15);
-        rows(x, 0, 0, 0, 0);
+        due.rows(x, 0, 0, 0, 0);
         Due.rules(x, "missing half;");
-        rows(x, 0, 0, 5, 125);
+        due.rows(x, 0, 0, 5, 125);
         x.tell(0, 1, 10);
-        rows(x, 0, 0, 0, 0);
+        due.rows(x, 0, 0, 0, 0);
     }
 
     private static void noRowsIfNeitherYesNorNo() {
@@ -177,17 +167,17 @@ public final class CostBoundsTest {
         Due.rules(x, "missing half;");
         x.question(0, 9);
         x.guess(0, 0, 0, 8);
-        rows(x, 0, 0, 0, 0);
+        due.rows(x, 0, 0, 0, 0);
         x.tell(0, 1, 5);
-        rows(x, 0, 0, 5, 20);
+        due.rows(x, 0, 0, 5, 20);
         x.tell(0, 2, 0);
-        rows(x, 0, 0, 0, 0);
-        mean(x, 0, 0, 0);
+        due.rows(x, 0, 0, 0, 0);
+        due.mean(x, 0, 0, 0);
         x.tell(0, 0, 5);
-        rows(x, 0, 0, 5, 320);
+        due.rows(x, 0, 0, 5, 320);
         x.tell(0, 3, 0);
-        rows(x, 0, 0, 0, 0);
-        mean(x, 0, 0, 0);
+        due.rows(x, 0, 0, 0, 0);
+        due.mean(x, 0, 0, 0);
     }
 
     /** What is kept of an earlier ask must not outlive a change, whatever came between. */
@@ -196,21 +186,21 @@ public final class CostBoundsTest {
         ForeBook x = new ForeBook();
         x.question(0, 9);
         x.guess(0, 0, 0, 8);
-        rows(x, 0, 0, 0, 0);
+        due.rows(x, 0, 0, 0, 0);
         x.question(0, 9);
         x.tell(0, 1, 5);
-        rows(x, 0, 0, 5, 20);
+        due.rows(x, 0, 0, 5, 20);
         x.question(0, 9);
         x.tell(0, 3, 0);
         x.guess(0, 0, 1, 9);
         x.question(0, 9);
         x.question(0, 9);
         x.tell(0, 1, 5);
-        rows(x, 0, 0, 5, 8);
+        due.rows(x, 0, 0, 5, 8);
         x.question(0, 9);
         Due.rules(x, "yes 7 7 7 7 7 7 7 7 7 7 7;");
-        rows(x, 0, 0, 5, 35);
-        mean(x, 0, 7, 1);
+        due.rows(x, 0, 0, 5, 35);
+        due.mean(x, 0, 7, 1);
     }
 
     private static void leastRowsOrMore() {
@@ -240,30 +230,30 @@ public final class CostBoundsTest {
         x.tell(0, 1, 60);
         x.tell(1, 1, 60);
         Due.rules(x, "least 60;");
-        mean(x, 0, 4, 1);
+        due.mean(x, 0, 4, 1);
         Due.rules(x, "least 61;");
-        mean(x, 0, 0, 0);
+        due.mean(x, 0, 0, 0);
         Due.rules(x, "least 99;weights past;");
-        mean(x, 0, 0, 0);
+        due.mean(x, 0, 0, 0);
         due.same("ranked", x.ranked(0), ForeBook.NONE);
         due.same("weight", x.weight(0, 999), 1);
         due.same("luck", x.luck(0, 0), 0);
-        rows(x, 0, 0, 60, 240);
+        due.rows(x, 0, 0, 60, 240);
     }
 
     private static void meanWithoutAny() {
         due.sentence("MEAN of a GUESSER, what 0: above, 1: below; 0 for both without; RANGE.");
         ForeBook x = new ForeBook();
-        mean(x, 0, 0, 0);
+        due.mean(x, 0, 0, 0);
         x.question(10, 19);
         x.guess(0, 0, 12, 8);
-        mean(x, 0, 0, 0);
+        due.mean(x, 0, 0, 0);
         x.tell(0, 1, 12);
-        mean(x, 0, 0, 0);
+        due.mean(x, 0, 0, 0);
         x.tell(0, 1, 13);
-        mean(x, 0, 4, 1);
-        mean(x, 1, 0, 0);
-        mean(x, 19, 0, 0);
+        due.mean(x, 0, 4, 1);
+        due.mean(x, 1, 0, 0);
+        due.mean(x, 19, 0, 0);
     }
 
     private static void meanIsCut() {
@@ -272,17 +262,17 @@ public final class CostBoundsTest {
         x.question(0, 59);
         x.guess(0, 0, 0, 10);
         x.tell(0, 1, 60);
-        mean(x, 0, 0, 1);
+        due.mean(x, 0, 0, 1);
         x.tell(0, 3, 0);
         x.guess(0, 0, 54, 9);
         x.tell(0, 1, 60);
-        mean(x, 0, 1, 10);
+        due.mean(x, 0, 1, 10);
         x.tell(0, 1, 59);
-        mean(x, 0, 5, 59);
+        due.mean(x, 0, 5, 59);
         x.tell(0, 1, 58);
-        mean(x, 0, 2, 29);
+        due.mean(x, 0, 2, 29);
         x.tell(0, 0, 54);
-        mean(x, 0, 100, 1);
+        due.mean(x, 0, 100, 1);
     }
 
     private static void meanOfAllThereCanBe() {
@@ -298,8 +288,8 @@ public final class CostBoundsTest {
         for (int q = 0; q < 20; q++) {
             x.tell(q, 1, 999);
         }
-        mean(x, 0, 1000, 1);
-        mean(x, 1, 1199999, 1200);
+        due.mean(x, 0, 1000, 1);
+        due.mean(x, 1, 1199999, 1200);
         due.same("the lesser one first", x.ranked(0), 1);
         due.same("the other behind", x.ranked(1), 0);
     }
@@ -313,13 +303,13 @@ public final class CostBoundsTest {
         x.guess(0, 1, 10, 5);
         x.tell(0, 1, 13);
         x.tell(1, 1, 12);
-        mean(x, 0, 62, 5);
+        due.mean(x, 0, 62, 5);
         Due.rules(x, "least 2;");
-        mean(x, 0, 62, 5);
+        due.mean(x, 0, 62, 5);
         Due.rules(x, "least 3;");
-        mean(x, 0, 4, 1);
+        due.mean(x, 0, 4, 1);
         Due.rules(x, "least 4;");
-        mean(x, 0, 0, 0);
+        due.mean(x, 0, 0, 0);
     }
 
     private static void rankedAlikeByNumber() {
@@ -353,9 +343,9 @@ public final class CostBoundsTest {
         x.guess(3, 1, 59, 10);
         x.tell(0, 1, 60);
         x.tell(1, 1, 60);
-        mean(x, 5, 58, 59);
-        mean(x, 3, 59, 60);
-        mean(x, 7, 59, 60);
+        due.mean(x, 5, 58, 59);
+        due.mean(x, 3, 59, 60);
+        due.mean(x, 7, 59, 60);
         int[] want = {5, 3, 7, ForeBook.NONE};
         for (int i = 0; i < want.length; i++) {
             due.same("ranked " + i, x.ranked(i), want[i]);

@@ -17,16 +17,6 @@ public final class CostsTest {
         due.finish();
     }
 
-    private static void rows(ForeBook x, int g, int q, int many, int sum) {
-        due.same("rows(" + g + ", " + q + ", 0)", x.rows(g, q, 0), many);
-        due.same("rows(" + g + ", " + q + ", 1)", x.rows(g, q, 1), sum);
-    }
-
-    private static void mean(ForeBook x, int g, int above, int below) {
-        due.same("mean(" + g + ", 0)", x.mean(g, 0), above);
-        due.same("mean(" + g + ", 1)", x.mean(g, 1), below);
-    }
-
     private static void rowsGoUpToTheDayItWasKnown() {
         ForeBook x = new ForeBook();
         x.question(10, 19);
@@ -34,35 +24,35 @@ public final class CostsTest {
         x.guess(0, 0, 15, 3);
         x.guess(0, 0, 15, 6);
         x.tell(0, 1, 10);
-        rows(x, 0, 0, 0, 0);
+        due.rows(x, 0, 0, 0, 0);
         x.tell(0, 1, 12);
-        rows(x, 0, 0, 0, 0);
+        due.rows(x, 0, 0, 0, 0);
         x.tell(0, 1, 13);
-        rows(x, 0, 0, 1, 1);
+        due.rows(x, 0, 0, 1, 1);
         x.tell(0, 1, 16);
-        rows(x, 0, 0, 4, 3 + 16);
+        due.rows(x, 0, 0, 4, 3 + 16);
         x.tell(0, 1, 19);
-        rows(x, 0, 0, 7, 3 + 4 * 16);
+        due.rows(x, 0, 0, 7, 3 + 4 * 16);
         x.tell(0, 1, 20);
-        rows(x, 0, 0, 8, 3 + 5 * 16);
+        due.rows(x, 0, 0, 8, 3 + 5 * 16);
         x.tell(0, 1, 999);
-        rows(x, 0, 0, 8, 3 + 5 * 16);
+        due.rows(x, 0, 0, 8, 3 + 5 * 16);
         x.tell(0, 0, 16);
-        rows(x, 0, 0, 4, 3 * 81 + 36);
-        rows(x, 1, 0, 0, 0);
+        due.rows(x, 0, 0, 4, 3 * 81 + 36);
+        due.rows(x, 1, 0, 0, 0);
     }
 
     private static void rowsOfWhatIsNotSettled() {
         ForeBook x = new ForeBook();
         x.question(10, 19);
         x.guess(0, 0, 12, 9);
-        rows(x, 0, 0, 0, 0);
+        due.rows(x, 0, 0, 0, 0);
         x.tell(0, 1, 19);
-        rows(x, 0, 0, 7, 7);
+        due.rows(x, 0, 0, 7, 7);
         x.tell(0, 2, 0);
-        rows(x, 0, 0, 0, 0);
+        due.rows(x, 0, 0, 0, 0);
         x.tell(0, 3, 0);
-        rows(x, 0, 0, 0, 0);
+        due.rows(x, 0, 0, 0, 0);
     }
 
     private static void rowsWithHalf() {
@@ -72,14 +62,14 @@ public final class CostsTest {
         x.guess(0, 0, 13, 10);
         x.guess(1, 0, 18, 10);
         x.tell(0, 1, 15);
-        rows(x, 0, 0, 5, 3 * 25);
-        rows(x, 1, 0, 5, 5 * 25);
-        rows(x, 2, 0, 0, 0);
+        due.rows(x, 0, 0, 5, 3 * 25);
+        due.rows(x, 1, 0, 5, 5 * 25);
+        due.rows(x, 2, 0, 0, 0);
         x.tell(0, 0, 19);
-        rows(x, 0, 0, 9, 3 * 500 + 6 * 10);
-        rows(x, 1, 0, 9, 8 * 500 + 10);
+        due.rows(x, 0, 0, 9, 3 * 500 + 6 * 10);
+        due.rows(x, 1, 0, 9, 8 * 500 + 10);
         x.tell(0, 0, 10);
-        rows(x, 0, 0, 0, 0);
+        due.rows(x, 0, 0, 0, 0);
     }
 
     private static void rowsOutOfRange() {
@@ -96,13 +86,13 @@ public final class CostsTest {
         x.question(10, 19);
         x.guess(0, 0, 12, 9);
         x.tell(0, 1, 15);
-        rows(x, 0, 0, 3, 3);
+        due.rows(x, 0, 0, 3, 3);
         Due.rules(x, "yes 0 0 0 0 0 7 0 0 0 1000 0;missing half;");
-        rows(x, 0, 0, 5, 3014);
+        due.rows(x, 0, 0, 5, 3014);
         Due.rules(x, "yes 0;");
-        rows(x, 0, 0, 5, 3014);
+        due.rows(x, 0, 0, 5, 3014);
         x.rules();
-        rows(x, 0, 0, 3, 3);
+        due.rows(x, 0, 0, 3, 3);
     }
 
     private static void leastDecidesWhatCounts() {
@@ -113,14 +103,14 @@ public final class CostsTest {
         x.guess(0, 1, 15, 7);
         x.tell(0, 1, 14);
         x.tell(1, 1, 18);
-        mean(x, 0, 16 + 27, 7);
+        due.mean(x, 0, 16 + 27, 7);
         Due.rules(x, "least 3;");
-        mean(x, 0, 43, 7);
+        due.mean(x, 0, 43, 7);
         Due.rules(x, "least 4;");
-        mean(x, 0, 4, 1);
-        rows(x, 0, 1, 3, 27);
+        due.mean(x, 0, 4, 1);
+        due.rows(x, 0, 1, 3, 27);
         Due.rules(x, "least 5;");
-        mean(x, 0, 0, 0);
+        due.mean(x, 0, 0, 0);
         due.same("with a mean", x.count(4), 0);
         due.same("ranked", x.ranked(0), ForeBook.NONE);
     }
@@ -133,14 +123,14 @@ public final class CostsTest {
         x.guess(0, 0, 13, 10);
         x.guess(1, 0, 10, 10);
         x.tell(0, 1, 16);
-        mean(x, 0, 2, 1);
-        mean(x, 1, 0, 1);
-        mean(x, 2, 0, 0);
+        due.mean(x, 0, 2, 1);
+        due.mean(x, 1, 0, 1);
+        due.mean(x, 2, 0, 0);
         x.tell(0, 1, 15);
-        mean(x, 0, 12, 5);
+        due.mean(x, 0, 12, 5);
         x.guess(0, 1, 19, 5);
         x.tell(1, 0, 999);
-        mean(x, 0, 37, 6);
+        due.mean(x, 0, 37, 6);
     }
 
     private static void meanOutOfRange() {

@@ -477,31 +477,26 @@ public final class CrowdBoundsTest {
         due.same("no copy", x.joined(0, 5), 3);
     }
 
-    private static void together(ForeBook x, int q, int many, int sum) {
-        due.same("together(" + q + ", 0)", x.together(q, 0), many);
-        due.same("together(" + q + ", 1)", x.together(q, 1), sum);
-    }
-
     private static void togetherOnDaysThatCount() {
         due.sentence("ROWS of what was JOINED on a QUESTION (on days that count, without any aside)");
         ForeBook x = new ForeBook();
         x.question(0, 59);
         x.guess(0, 0, 0, 8);
-        together(x, 0, 0, 0);
+        due.together(x, 0, 0, 0);
         for (int known : new int[] {0, 1, 2, 59, 60, 61, 999}) {
             x.tell(0, 1, known);
             int many = Math.min(known, 60);
-            together(x, 0, many, 4 * many);
+            due.together(x, 0, many, 4 * many);
             x.tell(0, 0, known);
-            together(x, 0, many, 64 * many);
+            due.together(x, 0, many, 64 * many);
         }
         Due.rules(x, "least 99;");
-        together(x, 0, 60, 64 * 60);
+        due.together(x, 0, 60, 64 * 60);
         due.sentence("what 0: how many, 1: their sum (0 if it isn't YES or NO). RANGE.");
         x.tell(0, 2, 0);
-        together(x, 0, 0, 0);
+        due.together(x, 0, 0, 0);
         x.tell(0, 3, 0);
-        together(x, 0, 0, 0);
+        due.together(x, 0, 0, 0);
     }
 
     private static void togetherWithoutAnyAside() {
@@ -516,15 +511,9 @@ public final class CrowdBoundsTest {
             x.guess(2, 0, 18, 8);
             x.tell(0, 1, 20);
             x.tell(1, 1, 20);
-            together(x, 0, 4, 1 + 1 + 4 + 4);
-            together(x, 1, 0, 0);
+            due.together(x, 0, 4, 1 + 1 + 4 + 4);
+            due.together(x, 1, 0, 0);
         }
-    }
-
-    private static void luck(ForeBook x, int g, long n, long b, long many) {
-        due.same("luck(" + g + ", 0)", x.luck(g, 0), n);
-        due.same("luck(" + g + ", 1)", x.luck(g, 1), b);
-        due.same("luck(" + g + ", 2)", x.luck(g, 2), many);
     }
 
     /** Guessers 0, 1, 2 hold 2, 5, 8: joined is 5, and guesser 2 is better where it is YES. */
@@ -540,9 +529,9 @@ public final class CrowdBoundsTest {
                 x.tell(q, 0, 1);
             }
             for (int b = 0; b <= n; b++) {
-                luck(x, 2, n, b, withHeads(n, b));
-                luck(x, 0, n, n - b, withHeads(n, n - b));
-                luck(x, 1, 0, 0, 1);
+                due.luck(x, 2, n, b, withHeads(n, b));
+                due.luck(x, 0, n, n - b, withHeads(n, n - b));
+                due.luck(x, 1, 0, 0, 1);
                 x.tell(b, 1, 1);
             }
         }
@@ -569,12 +558,12 @@ public final class CrowdBoundsTest {
         x.guess(0, 0, 0, 4);
         x.guess(0, 0, 1, 6);
         x.tell(0, 1, 2);
-        luck(x, 0, 0, 0, 1);
+        due.luck(x, 0, 0, 0, 1);
         x.tell(0, 1, 1);
-        luck(x, 0, 1, 1, 1);
-        luck(x, 1, 0, 0, 1);
+        due.luck(x, 0, 1, 1, 1);
+        due.luck(x, 1, 0, 0, 1);
         x.tell(0, 0, 2);
-        luck(x, 0, 1, 0, 2);
+        due.luck(x, 0, 1, 0, 2);
     }
 
     private static void luckOfLesserSums() {
@@ -589,13 +578,13 @@ public final class CrowdBoundsTest {
         }
         x.tell(0, 1, 59);
         x.tell(1, 1, 59);
-        luck(x, 0, 0, 0, 1);
+        due.luck(x, 0, 0, 0, 1);
         x.tell(0, 1, 60);
-        luck(x, 0, 1, 1, 1);
+        due.luck(x, 0, 1, 1, 1);
         x.tell(1, 0, 60);
-        luck(x, 0, 2, 1, 3);
+        due.luck(x, 0, 2, 1, 3);
         x.tell(0, 1, 59);
-        luck(x, 0, 1, 0, 2);
+        due.luck(x, 0, 1, 0, 2);
     }
 
     private static void luckLeavesDaysAside() {
@@ -606,15 +595,15 @@ public final class CrowdBoundsTest {
         x.guess(1, 0, 14, 9);
         x.guess(0, 0, 14, 9);
         x.tell(0, 1, 20);
-        luck(x, 0, 0, 0, 1);
+        due.luck(x, 0, 0, 0, 1);
         Due.rules(x, "missing half;");
-        luck(x, 0, 1, 1, 1);
+        due.luck(x, 0, 1, 1, 1);
         ForeBook y = withRules("missing half;");
         y.question(10, 19);
         y.guess(0, 0, 15, 9);
         y.tell(0, 1, 20);
         due.same("rows, five of them of 5", y.rows(0, 0, 1), 130);
-        luck(y, 0, 0, 0, 1);
+        due.luck(y, 0, 0, 0, 1);
         ForeBook z = withRules("copy 1 1;");
         z.question(10, 19);
         z.guess(0, 0, 10, 9);
@@ -623,8 +612,8 @@ public final class CrowdBoundsTest {
         z.guess(0, 0, 13, 2);
         z.tell(0, 1, 20);
         due.same("days with a joined number", z.together(0, 0), 2);
-        luck(z, 0, 0, 0, 1);
-        luck(z, 1, 0, 0, 1);
+        due.luck(z, 0, 0, 0, 1);
+        due.luck(z, 1, 0, 0, 1);
     }
 
     private static void luckOfWhatCounts() {
@@ -638,20 +627,20 @@ public final class CrowdBoundsTest {
             x.guess(0, q, 4, 9);
             x.tell(q, 1, 9);
         }
-        luck(x, 0, 2, 2, 1);
+        due.luck(x, 0, 2, 2, 1);
         Due.rules(x, "least 5;");
-        luck(x, 0, 2, 2, 1);
+        due.luck(x, 0, 2, 2, 1);
         Due.rules(x, "least 6;");
-        luck(x, 0, 0, 0, 1);
+        due.luck(x, 0, 0, 0, 1);
         x.rules();
         x.tell(0, 2, 0);
-        luck(x, 0, 1, 1, 1);
+        due.luck(x, 0, 1, 1, 1);
         x.tell(1, 3, 0);
-        luck(x, 0, 0, 0, 1);
+        due.luck(x, 0, 0, 0, 1);
         x.tell(0, 1, 4);
-        luck(x, 0, 0, 0, 1);
+        due.luck(x, 0, 0, 0, 1);
         x.tell(0, 1, 5);
-        luck(x, 0, 1, 1, 1);
-        luck(x, 3, 0, 0, 1);
+        due.luck(x, 0, 1, 1, 1);
+        due.luck(x, 3, 0, 0, 1);
     }
 }

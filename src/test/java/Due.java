@@ -54,6 +54,33 @@ final class Due {
         same(what, so ? 1 : 0, 1);
     }
 
+    void rows(ForeBook x, int g, int q, int many, int sum) {
+        same("rows(" + g + ", " + q + ", 0)", x.rows(g, q, 0), many);
+        same("rows(" + g + ", " + q + ", 1)", x.rows(g, q, 1), sum);
+    }
+
+    void mean(ForeBook x, int g, int above, int below) {
+        same("mean(" + g + ", 0)", x.mean(g, 0), above);
+        same("mean(" + g + ", 1)", x.mean(g, 1), below);
+    }
+
+    void together(ForeBook x, int q, int many, int sum) {
+        same("together(" + q + ", 0)", x.together(q, 0), many);
+        same("together(" + q + ", 1)", x.together(q, 1), sum);
+    }
+
+    void luck(ForeBook x, int g, long n, long b, long many) {
+        same("luck(" + g + ", 0)", x.luck(g, 0), n);
+        same("luck(" + g + ", 1)", x.luck(g, 1), b);
+        same("luck(" + g + ", 2)", x.luck(g, 2), many);
+    }
+
+    void mended(ForeBook x, int... want) {
+        for (int q = 0; q < want.length; q++) {
+            same("mended(" + q + ")", x.mended(q), want[q]);
+        }
+    }
+
     void finish() {
         System.out.println(test + ": " + asked + " answers, " + wrong + " of them not as due");
         if (wrong != 0 || asked == 0) {
@@ -82,6 +109,15 @@ final class Due {
             word = word << 8 | (i < text.length() ? text.charAt(i) & 255 : 0);
         }
         return word;
+    }
+
+    /** A new book with so many questions that are open on days 10 to 19. */
+    static ForeBook withQuestions(int many) {
+        ForeBook book = new ForeBook();
+        for (int q = 0; q < many; q++) {
+            book.question(10, 19);
+        }
+        return book;
     }
 
     static int rules(ForeBook book, String text) {

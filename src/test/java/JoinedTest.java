@@ -264,27 +264,22 @@ public final class JoinedTest {
         }
     }
 
-    private static void together(ForeBook x, int q, int many, int sum) {
-        due.same("together(" + q + ", 0)", x.together(q, 0), many);
-        due.same("together(" + q + ", 1)", x.together(q, 1), sum);
-    }
-
     private static void togetherRows() {
         ForeBook x = new ForeBook();
         x.question(10, 19);
         x.guess(0, 0, 12, 9);
         x.guess(1, 0, 14, 7);
-        together(x, 0, 0, 0);
+        due.together(x, 0, 0, 0);
         x.tell(0, 1, 16);
-        together(x, 0, 4, 2 * 1 + 2 * 9);
+        due.together(x, 0, 4, 2 * 1 + 2 * 9);
         x.tell(0, 0, 999);
-        together(x, 0, 8, 2 * 81 + 6 * 49);
+        due.together(x, 0, 8, 2 * 81 + 6 * 49);
         Due.rules(x, "missing half;");
-        together(x, 0, 8, 2 * 81 + 6 * 49);
+        due.together(x, 0, 8, 2 * 81 + 6 * 49);
         x.tell(0, 1, 10);
-        together(x, 0, 0, 0);
+        due.together(x, 0, 0, 0);
         x.tell(0, 2, 0);
-        together(x, 0, 0, 0);
+        due.together(x, 0, 0, 0);
     }
 
     private static void togetherOutOfRange() {
@@ -296,16 +291,10 @@ public final class JoinedTest {
         }
     }
 
-    private static void luck(ForeBook x, int g, long n, long b, long many) {
-        due.same("luck(" + g + ", 0)", x.luck(g, 0), n);
-        due.same("luck(" + g + ", 1)", x.luck(g, 1), b);
-        due.same("luck(" + g + ", 2)", x.luck(g, 2), many);
-    }
-
     /** Guessers 0, 1, 2 hold 2, 5, 8: joined is 5; of 20 questions 13 are yes, 5 no, one void, one open. */
     private static void luckCounts() {
         ForeBook x = new ForeBook();
-        luck(x, 0, 0, 0, 1);
+        due.luck(x, 0, 0, 0, 1);
         for (int q = 0; q < 20; q++) {
             x.question(10, 10);
             x.guess(0, q, 10, 2);
@@ -316,18 +305,18 @@ public final class JoinedTest {
             x.tell(q, q < 13 ? 1 : 0, 11);
         }
         x.tell(18, 2, 0);
-        luck(x, 0, 18, 5, 262144 - 1 - 18 - 153 - 816 - 3060);
-        luck(x, 1, 0, 0, 1);
-        luck(x, 2, 18, 13, 8568 + 3060 + 816 + 153 + 18 + 1);
+        due.luck(x, 0, 18, 5, 262144 - 1 - 18 - 153 - 816 - 3060);
+        due.luck(x, 1, 0, 0, 1);
+        due.luck(x, 2, 18, 13, 8568 + 3060 + 816 + 153 + 18 + 1);
         x.tell(18, 1, 11);
         x.tell(19, 1, 11);
         for (int q = 13; q < 18; q++) {
             x.tell(q, 1, 11);
         }
-        luck(x, 0, 20, 0, 1048576);
-        luck(x, 2, 20, 20, 1);
+        due.luck(x, 0, 20, 0, 1048576);
+        due.luck(x, 2, 20, 20, 1);
         Due.rules(x, "least 2;");
-        luck(x, 2, 0, 0, 1);
+        due.luck(x, 2, 0, 0, 1);
     }
 
     private static void luckLeavesDaysAside() {
@@ -337,19 +326,19 @@ public final class JoinedTest {
         x.guess(1, 0, 10, 5);
         x.guess(1, 0, 12, 9);
         x.tell(0, 1, 20);
-        luck(x, 0, 0, 0, 1);
-        luck(x, 1, 0, 0, 1);
+        due.luck(x, 0, 0, 0, 1);
+        due.luck(x, 1, 0, 0, 1);
         Due.rules(x, "missing half;");
-        luck(x, 0, 0, 0, 1);
+        due.luck(x, 0, 0, 0, 1);
         x.tell(0, 3, 0);
         x.guess(2, 0, 19, 10);
         x.guess(3, 0, 19, 10);
         x.guess(4, 0, 19, 10);
         x.tell(0, 1, 20);
-        luck(x, 2, 1, 0, 2);
+        due.luck(x, 2, 1, 0, 2);
         x.rules();
-        luck(x, 2, 0, 0, 1);
-        luck(x, 0, 1, 0, 2);
+        due.luck(x, 2, 0, 0, 1);
+        due.luck(x, 0, 1, 0, 2);
     }
 
     private static void luckOutOfRange() {

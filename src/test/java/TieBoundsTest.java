@@ -21,31 +21,17 @@ public final class TieBoundsTest {
         due.finish();
     }
 
-    private static ForeBook withQuestions(int many) {
-        ForeBook x = new ForeBook();
-        for (int q = 0; q < many; q++) {
-            x.question(10, 19);
-        }
-        return x;
-    }
-
     private static ForeBook holding(int... tenths) {
-        ForeBook x = withQuestions(tenths.length);
+        ForeBook x = Due.withQuestions(tenths.length);
         for (int q = 0; q < tenths.length; q++) {
             x.guess(0, q, 10, tenths[q]);
         }
         return x;
     }
 
-    private static void mended(ForeBook x, int... want) {
-        for (int q = 0; q < want.length; q++) {
-            due.same("mended " + q, x.mended(q), want[q]);
-        }
-    }
-
     private static void tiesAreThirty() {
         due.sentence("TIES, at most 30, of two QUESTIONS");
-        ForeBook x = withQuestions(20);
+        ForeBook x = Due.withQuestions(20);
         for (int i = 0; i < 30; i++) {
             due.same("tie " + i, x.tie(i % 20, (i + 1) % 20, i % 3), i);
             due.same("ties", x.count(2), i + 1);
@@ -57,7 +43,7 @@ public final class TieBoundsTest {
 
     private static void tieRefusalsInOrder() {
         due.sentence("A TIE of two QUESTIONS (unlike), kind 0 .. 2: its number; RANGE; FULL.");
-        ForeBook x = withQuestions(2);
+        ForeBook x = Due.withQuestions(2);
         int[][] wrong = {{0, 0, 0}, {1, 1, 1}, {-1, 0, 0}, {0, -1, 0}, {2, 0, 0}, {0, 2, 0}, {0, 1, -1}, {0, 1, 3}};
         for (int full = 0; full < 2; full++) {
             for (int[] w : wrong) {
@@ -96,7 +82,7 @@ public final class TieBoundsTest {
     private static void pumpsOfWhatTheyHoldAlone() {
         due.sentence("TIES that what they HOLD breaks (of QUESTIONS of which they HOLD something alone).");
         for (int kind = 0; kind <= 2; kind++) {
-            ForeBook x = withQuestions(2);
+            ForeBook x = Due.withQuestions(2);
             x.tie(0, 1, kind);
             x.tie(1, 0, kind);
             int first = kind == 2 ? 0 : 10;
@@ -151,7 +137,7 @@ public final class TieBoundsTest {
 
     private static void mendOfTheLastQuestions() {
         due.sentence("What a GUESSER HOLDS on a day of a set (bits) of QUESTIONS is MENDED: the least sum;");
-        ForeBook x = withQuestions(20);
+        ForeBook x = Due.withQuestions(20);
         for (int q = 0; q < 20; q++) {
             x.guess(19, q, 10, 9);
         }
@@ -173,7 +159,7 @@ public final class TieBoundsTest {
 
     private static void mendRefusalsInOrder() {
         due.sentence("RANGE: no such GUESSER, day, set (1 or more); FULL: more than 4; STATE: of one they HOLD nothing.");
-        ForeBook x = withQuestions(6);
+        ForeBook x = Due.withQuestions(6);
         due.same("five and one that is none", x.mend(0, 10, 31 | 64), ForeBook.RANGE);
         due.same("five, no guesser", x.mend(20, 10, 31), ForeBook.RANGE);
         due.same("five, no day", x.mend(0, 1000, 31), ForeBook.RANGE);
@@ -190,7 +176,7 @@ public final class TieBoundsTest {
     private static void mendOfWhatIsHeldThatDay() {
         due.sentence("of all of which they HOLD something");
         for (int missing = 0; missing < 4; missing++) {
-            ForeBook x = withQuestions(4);
+            ForeBook x = Due.withQuestions(4);
             for (int q = 0; q < 4; q++) {
                 x.guess(0, q, q == missing ? 15 : 12, q);
             }
@@ -212,7 +198,7 @@ public final class TieBoundsTest {
                     x.tie(tie / 3, 1 - tie / 3, tie % 3);
                     int[] want = leastChange(tie % 3, tie / 3 == 1, one, other);
                     due.same("mend of " + one + " and " + other + " by tie " + tie, x.mend(0, 10, 3), want[0]);
-                    mended(x, want[1], want[2]);
+                    due.mended(x, want[1], want[2]);
                 }
             }
         }
@@ -240,11 +226,11 @@ public final class TieBoundsTest {
         x.tie(4, 1, 1);
         x.tie(2, 4, 1);
         due.same("all ties go out of it", x.mend(0, 10, 15), 0);
-        mended(x, 9, 9, 9, 9, -1);
+        due.mended(x, 9, 9, 9, 9, -1);
         due.same("one inside", x.mend(0, 10, 17), 8);
-        mended(x, 1, -1, -1, -1, 9);
+        due.mended(x, 1, -1, -1, -1, 9);
         due.same("three inside", x.mend(0, 10, 23), 8);
-        mended(x, 9, 9, 9, -1, 1);
+        due.mended(x, 9, 9, 9, -1, 1);
         due.same("all that go out of it are broken still", x.pumps(0, 10), 7);
     }
 
@@ -257,22 +243,22 @@ public final class TieBoundsTest {
             }
         }
         due.same("not two of four", x.mend(0, 10, 15), 20);
-        mended(x, 5, 5, 5, 5);
+        due.mended(x, 5, 5, 5, 5);
         due.same("not two of three", x.mend(0, 10, 7), 15);
-        mended(x, 5, 5, 5);
+        due.mended(x, 5, 5, 5);
         due.same("not both", x.mend(0, 10, 6), 10);
-        mended(x, -1, 0, 10, -1);
+        due.mended(x, -1, 0, 10, -1);
         ForeBook y = holding(0, 0, 0, 0);
         y.tie(3, 0, 2);
         y.tie(1, 2, 2);
         due.same("one of two, twice", y.mend(0, 10, 15), 20);
-        mended(y, 0, 0, 10, 10);
+        due.mended(y, 0, 0, 10, 10);
         ForeBook z = holding(10, 7, 3, 0);
         z.tie(0, 1, 0);
         z.tie(1, 2, 0);
         z.tie(2, 3, 0);
         due.same("each makes the next one sure", z.mend(0, 10, 15), 14);
-        mended(z, 3, 3, 3, 3);
+        due.mended(z, 3, 3, 3, 3);
     }
 
     /** All tenths for four questions that hang together in a ring of all kinds. */
@@ -292,32 +278,32 @@ public final class TieBoundsTest {
                 naive.ties.add(tie);
             }
             due.same("mend of row " + row, x.mend(0, 10, 15), naive.mend(0, 10, 15));
-            mended(x, naive.mended[0], naive.mended[1], naive.mended[2], naive.mended[3]);
+            due.mended(x, naive.mended[0], naive.mended[1], naive.mended[2], naive.mended[3]);
         }
     }
 
     private static void mendedOfTheLatestThatToldASum() {
         due.sentence("The TENTH of QUESTION q by the latest mend() that told a sum; NONE.");
         ForeBook x = holding(9, 9, 9, 9, 9);
-        mended(x, -1, -1, -1, -1, -1);
+        due.mended(x, -1, -1, -1, -1, -1);
         due.same("refused", x.mend(0, 10, 31), ForeBook.FULL);
-        mended(x, -1, -1, -1, -1, -1);
+        due.mended(x, -1, -1, -1, -1, -1);
         x.tie(0, 1, 1);
         due.same("two", x.mend(0, 10, 3), 8);
-        mended(x, 1, 9, -1, -1, -1);
+        due.mended(x, 1, 9, -1, -1, -1);
         due.same("FULL", x.mend(0, 10, 31), ForeBook.FULL);
         due.same("RANGE", x.mend(0, 10, 0), ForeBook.RANGE);
         due.same("RANGE", x.mend(0, 1000, 12), ForeBook.RANGE);
         due.same("RANGE", x.mend(20, 10, 12), ForeBook.RANGE);
         due.same("STATE", x.mend(0, 9, 12), ForeBook.STATE);
         due.same("STATE", x.mend(1, 10, 12), ForeBook.STATE);
-        mended(x, 1, 9, -1, -1, -1);
+        due.mended(x, 1, 9, -1, -1, -1);
         x.guess(0, 0, 11, 0);
         x.tell(0, 2, 0);
         x.rules();
-        mended(x, 1, 9, -1, -1, -1);
+        due.mended(x, 1, 9, -1, -1, -1);
         due.same("two others", x.mend(0, 11, 12), 0);
-        mended(x, -1, -1, 9, 9, -1, -1);
+        due.mended(x, -1, -1, 9, 9, -1, -1);
         due.same("below all questions", x.mended(-1), ForeBook.NONE);
         due.same("far off", x.mended(Integer.MIN_VALUE), ForeBook.NONE);
         due.same("far off", x.mended(Integer.MAX_VALUE), ForeBook.NONE);

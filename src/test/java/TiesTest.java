@@ -17,16 +17,8 @@ public final class TiesTest {
         due.finish();
     }
 
-    private static ForeBook withQuestions(int many) {
-        ForeBook x = new ForeBook();
-        for (int q = 0; q < many; q++) {
-            x.question(10, 19);
-        }
-        return x;
-    }
-
     private static void tiesOutOfRange() {
-        ForeBook x = withQuestions(2);
+        ForeBook x = Due.withQuestions(2);
         int[][] wrong = {{-1, 1, 0}, {0, -1, 0}, {2, 1, 0}, {0, 2, 0}, {0, 0, 0}, {1, 1, 2}, {0, 1, -1}, {0, 1, 3}};
         for (int[] w : wrong) {
             due.same("tie " + w[0] + " " + w[1] + " " + w[2], x.tie(w[0], w[1], w[2]), ForeBook.RANGE);
@@ -38,7 +30,7 @@ public final class TiesTest {
     }
 
     private static void tiesAreFull() {
-        ForeBook x = withQuestions(2);
+        ForeBook x = Due.withQuestions(2);
         x.guess(0, 0, 10, 9);
         x.guess(0, 1, 10, 8);
         for (int i = 0; i < 30; i++) {
@@ -49,14 +41,14 @@ public final class TiesTest {
         due.same("ties", x.count(2), 30);
         due.same("the last bit", x.pumps(0, 10), 1 << 29);
         due.same("mend by all of them", x.mend(0, 10, 3), 1);
-        mended(x, 8, 8);
+        due.mended(x, 8, 8);
     }
 
     private static void pumpsByKind() {
         int[][] edges = {{0, 5, 5, 0}, {0, 6, 5, 1}, {0, 5, 6, 0}, {1, 5, 5, 0}, {1, 6, 5, 1}, {1, 0, 0, 0},
             {2, 5, 5, 0}, {2, 4, 5, 1}, {2, 10, 10, 0}};
         for (int[] e : edges) {
-            ForeBook x = withQuestions(2);
+            ForeBook x = Due.withQuestions(2);
             x.tie(0, 1, e[0]);
             x.guess(0, 0, 10, e[1]);
             x.guess(0, 1, 10, e[2]);
@@ -65,7 +57,7 @@ public final class TiesTest {
     }
 
     private static void pumpsOfWhatIsHeld() {
-        ForeBook x = withQuestions(3);
+        ForeBook x = Due.withQuestions(3);
         x.tie(0, 1, 1);
         x.tie(1, 2, 2);
         x.tie(2, 0, 0);
@@ -85,66 +77,60 @@ public final class TiesTest {
     }
 
     private static void pumpsOutOfRange() {
-        ForeBook x = withQuestions(1);
+        ForeBook x = Due.withQuestions(1);
         int[][] wrong = {{-1, 0}, {20, 0}, {0, -1}, {0, 1000}};
         for (int[] w : wrong) {
             due.same("pumps " + w[0] + " " + w[1], x.pumps(w[0], w[1]), ForeBook.RANGE);
         }
     }
 
-    private static void mended(ForeBook x, int... want) {
-        for (int q = 0; q < want.length; q++) {
-            due.same("mended " + q, x.mended(q), want[q]);
-        }
-    }
-
     private static void mendByKind() {
-        ForeBook x = withQuestions(2);
+        ForeBook x = Due.withQuestions(2);
         x.guess(0, 0, 10, 9);
         x.guess(0, 1, 10, 7);
         due.same("no ties", x.mend(0, 10, 3), 0);
-        mended(x, 9, 7);
+        due.mended(x, 9, 7);
         x.tie(0, 1, 0);
         due.same("the first makes the other sure", x.mend(0, 10, 3), 2);
-        mended(x, 7, 7);
+        due.mended(x, 7, 7);
         x.tie(1, 0, 1);
         due.same("not both", x.mend(0, 10, 3), 6);
-        mended(x, 3, 7);
+        due.mended(x, 3, 7);
         x.tie(1, 0, 0);
         due.same("alike", x.mend(0, 10, 3), 6);
-        mended(x, 5, 5);
+        due.mended(x, 5, 5);
     }
 
     private static void mendTakesTheLeastRow() {
-        ForeBook x = withQuestions(3);
+        ForeBook x = Due.withQuestions(3);
         x.guess(0, 0, 10, 2);
         x.guess(0, 1, 10, 3);
         x.guess(0, 2, 10, 4);
         x.tie(1, 2, 2);
         due.same("one at least", x.mend(0, 10, 6), 3);
-        mended(x, -1, 3, 7);
+        due.mended(x, -1, 3, 7);
         x.tie(2, 0, 0);
         due.same("and the first above the third", x.mend(0, 10, 7), 5);
-        mended(x, 4, 6, 4);
+        due.mended(x, 4, 6, 4);
     }
 
     private static void mendInsideTheSetAlone() {
-        ForeBook x = withQuestions(3);
+        ForeBook x = Due.withQuestions(3);
         x.guess(0, 0, 10, 9);
         x.guess(0, 1, 10, 9);
         x.guess(0, 2, 10, 9);
         x.tie(0, 1, 1);
         x.tie(1, 2, 1);
         due.same("no tie inside", x.mend(0, 10, 5), 0);
-        mended(x, 9, -1, 9);
+        due.mended(x, 9, -1, 9);
         due.same("one tie inside", x.mend(0, 10, 3), 8);
-        mended(x, 1, 9, -1);
+        due.mended(x, 1, 9, -1);
         due.same("both inside", x.mend(0, 10, 7), 8);
-        mended(x, 9, 1, 9);
+        due.mended(x, 9, 1, 9);
     }
 
     private static void mendOfFour() {
-        ForeBook x = withQuestions(20);
+        ForeBook x = Due.withQuestions(20);
         int[] set = {3, 9, 14, 19};
         int[] held = {0, 10, 10, 0};
         for (int i = 0; i < 4; i++) {
@@ -162,7 +148,7 @@ public final class TiesTest {
     }
 
     private static void mendRefused() {
-        ForeBook x = withQuestions(5);
+        ForeBook x = Due.withQuestions(5);
         due.same("no such guesser", x.mend(-1, 10, 1), ForeBook.RANGE);
         due.same("no such guesser", x.mend(20, 10, 1), ForeBook.RANGE);
         due.same("no such day", x.mend(0, -1, 1), ForeBook.RANGE);
@@ -182,8 +168,8 @@ public final class TiesTest {
     }
 
     private static void mendedStays() {
-        ForeBook x = withQuestions(3);
-        mended(x, -1, -1, -1);
+        ForeBook x = Due.withQuestions(3);
+        due.mended(x, -1, -1, -1);
         x.guess(0, 0, 10, 9);
         x.guess(0, 1, 10, 7);
         x.mend(0, 10, 3);
@@ -192,11 +178,11 @@ public final class TiesTest {
         x.mend(0, 10, 7);
         x.guess(0, 0, 11, 2);
         x.tie(0, 1, 1);
-        mended(x, 9, 7, -1);
+        due.mended(x, 9, 7, -1);
         due.same("mended -1", x.mended(-1), ForeBook.NONE);
         due.same("mended 3", x.mended(3), ForeBook.NONE);
         due.same("mended 20", x.mended(20), ForeBook.NONE);
         x.mend(0, 11, 2);
-        mended(x, -1, 7, -1);
+        due.mended(x, -1, 7, -1);
     }
 }
