@@ -2,9 +2,13 @@ import java.lang.reflect.Constructor;
 import java.lang.reflect.Field;
 import java.lang.reflect.Method;
 import java.lang.reflect.Modifier;
+import java.nio.file.Files;
+import java.nio.file.Path;
 import java.util.Arrays;
 import java.util.Set;
 import java.util.TreeSet;
+import java.util.regex.Matcher;
+import java.util.regex.Pattern;
 
 /** The class shows the document's face and nothing else. */
 public final class FaceTest {
@@ -16,7 +20,8 @@ public final class FaceTest {
         "int tie 3", "int pumps 2", "int mend 3", "int mended 1", "int about 2", "int count 1"};
     private static final String[] CONSTANTS = {"NONE", "RANGE", "FULL", "STATE"};
 
-    public static void main(String[] args) {
+    public static void main(String[] args) throws Exception {
+        wordsOfTheDocument();
         Class<?> face = ForeBook.class;
         due.holds("public and final", Modifier.isPublic(face.getModifiers()) && Modifier.isFinal(face.getModifiers()));
         methods(face);
@@ -35,6 +40,30 @@ public final class FaceTest {
         due.same("FULL", ForeBook.FULL, -3);
         due.same("STATE", ForeBook.STATE, -4);
         due.finish();
+    }
+
+    /** Each line of the document's face, and each head that it names, in its order. */
+    private static void wordsOfTheDocument() throws Exception {
+        String source = Files.readString(Path.of("src/main/java/ForeBook.java"));
+        String document = Files.readString(Path.of("../shared/DOC.md"));
+        int start = document.indexOf("public final class ForeBook {");
+        String[] face = document.substring(start, document.indexOf("```", start)).split("\n");
+        int at = 0;
+        for (String line : face) {
+            String told = line.trim().replaceAll("(?<=\\));$", " {");
+            int found = source.indexOf(told, at);
+            due.holds("the source goes on with " + told, found >= 0);
+            at = Math.max(at, found);
+        }
+        due.same("lines of the face", face.length, 1 + CONSTANTS.length + 1 + METHODS.length + 1);
+        Matcher head = Pattern.compile("Ahead of the calls `(\\w+)`.*says: (---- .*)\\.").matcher(document);
+        int heads = 0;
+        while (head.find()) {
+            heads++;
+            due.holds(head.group(2) + " stands ahead of " + head.group(1), Pattern.compile(
+                    "// " + head.group(2) + "\\s+public \\w+ " + head.group(1) + "\\(").matcher(source).find());
+        }
+        due.same("heads", heads, 4);
     }
 
     private static void methods(Class<?> face) {

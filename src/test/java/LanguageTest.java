@@ -1,3 +1,7 @@
+import java.lang.reflect.Constructor;
+import java.lang.reflect.Field;
+import java.lang.reflect.Method;
+import java.lang.reflect.Modifier;
 import java.nio.file.Files;
 import java.nio.file.Path;
 import java.util.regex.Matcher;
@@ -21,6 +25,11 @@ public final class LanguageTest {
         due.same("imports but java.util.Arrays", countOf(source, "import (?!java\\.util\\.Arrays;)"), 0);
         due.same("loops without a test", countOf(source, "while\\s*\\(true\\)|for\\s*\\([^;]*;\\s*;"), 0);
         due.holds("at most twelve classes", countOf(source, "\\b(class|enum|record|interface)\\s") <= 12);
+        due.same("texts joined by +", countOf(source, "\"\\s*\\+|\\+\\s*\""), 0);
+        due.same("arrays of two dimensions", countOf(source, "\\]\\s*\\["), 0);
+        due.same("signs beyond 127", countOf(source, "[^\\x00-\\x7f]"), 0);
+        lengthsOfMethods(source);
+        sizesOfClasses();
         room();
         due.finish();
     }
@@ -32,6 +41,39 @@ public final class LanguageTest {
             found++;
         }
         return found;
+    }
+
+    /** A method of the face stands in by four, one of a class inside by eight. */
+    private static void lengthsOfMethods(String source) {
+        Matcher method = Pattern.compile("(?ms)^( {4}| {8})(?! )[^\\n;=]*\\) \\{\\n.*?^\\1\\}").matcher(source);
+        int found = 0;
+        while (method.find()) {
+            found++;
+            String head = method.group().substring(0, method.group().indexOf('\n')).trim();
+            due.holds(head + " has at most sixty lines", method.group().split("\n").length <= 60);
+        }
+        due.holds("methods were found: " + found, found > 90);
+    }
+
+    private static void sizesOfClasses() {
+        sizeOf(ForeBook.class);
+        for (Class<?> inside : ForeBook.class.getDeclaredClasses()) {
+            sizeOf(inside);
+        }
+    }
+
+    private static void sizeOf(Class<?> type) {
+        int fields = 0;
+        for (Field f : type.getDeclaredFields()) {
+            fields += Modifier.isStatic(f.getModifiers()) ? 0 : 1;
+        }
+        due.holds(type + " has at most twenty fields", fields <= 20);
+        for (Method m : type.getDeclaredMethods()) {
+            due.holds(m + " takes at most seven", m.getParameterCount() <= 7);
+        }
+        for (Constructor<?> c : type.getDeclaredConstructors()) {
+            due.holds(c + " takes at most seven", c.getParameterCount() <= 7);
+        }
     }
 
     /** A book as full as it can be, asked the dearest calls, stays far below one run's room. */
